@@ -93,6 +93,7 @@ public final class BothLists {
     private int p;
     private final Turning[] turnings;
     private final int[] seeds;
+    private final int[] numbers;
     private final Play done;
     private final Agreement[] agreements;
     private boolean ran;
@@ -110,6 +111,7 @@ public final class BothLists {
         p = FIRST_PRIME;
         turnings = new Turning[] {new Turning(), new Turning()};
         seeds = new int[] {1, 1};
+        numbers = new int[MOST_WORDS];
         done = new Play();
         Play trial = new Play();
         Turning guess = new Turning();
@@ -357,7 +359,8 @@ public final class BothLists {
         if (!ran || p > MOST_PRIME_TO_AGREE) {
             return STATE;
         }
-        Agreement agreement = agreementOf(side);
+        Agreement agreement = agreements[side];
+        agreement.search(done, way, names[KNOWN], side);
         switch (what) {
             case 0:
                 return agreement.agreeingLists();
@@ -377,7 +380,8 @@ public final class BothLists {
         if (!ran || p > MOST_PRIME_TO_AGREE) {
             return STATE;
         }
-        Agreement agreement = agreementOf(side);
+        Agreement agreement = agreements[side];
+        agreement.search(done, way, names[KNOWN], side);
         int all = agreement.agreeingLists();
         if (all == 0) {
             return NONE;
@@ -412,7 +416,7 @@ public final class BothLists {
         if (!isSide(side) || !isRow(m, h)) {
             return RANGE;
         }
-        return rowOf(names[side], m, h);
+        return rowOf(numbersOf(side), m, h);
     }
 
     public int strangers(int side, int m, int h) {
@@ -422,7 +426,8 @@ public final class BothLists {
         if (p > MOST_PRIME_OF_STRANGERS) {
             return STATE;
         }
-        return seemingIn(rowOf(names[side], m, h), m, h) - differentNumbers(names[side]);
+        int many = numbersOf(side);
+        return seemingIn(rowOf(many, m, h), m, h) - differentNumbers(many);
     }
 
     public int cheapest(int side, int most) {
@@ -432,10 +437,11 @@ public final class BothLists {
         if (p > MOST_PRIME_OF_STRANGERS) {
             return STATE;
         }
-        int own = differentNumbers(names[side]);
+        int many = numbersOf(side);
+        int own = differentNumbers(many);
         for (int m = 1; m <= MOST_BITS; m++) {
             for (int h = 1; h <= MOST_THROWS; h++) {
-                if (seemingIn(rowOf(names[side], m, h), m, h) - own <= most) {
+                if (seemingIn(rowOf(many, m, h), m, h) - own <= most) {
                     return 10 * m + h;
                 }
             }
@@ -648,14 +654,6 @@ public final class BothLists {
         }
     }
 
-    private Agreement agreementOf(int side) {
-        Agreement agreement = agreements[side];
-        if (!agreement.fresh) {
-            agreement.search(done, way, names[KNOWN], side);
-        }
-        return agreement;
-    }
-
     /** What a side saw is just what the other side sent. */
     private boolean isReadable(int side, int x) {
         Hand hand = done.hands[side];
@@ -672,10 +670,21 @@ public final class BothLists {
         return bits;
     }
 
-    private long rowOf(Names list, int m, int h) {
+    /** Puts the NUMBERS of a LIST into the row kept for them, and tells how many there are. */
+    private int numbersOf(int side) {
+        Names list = names[side];
+        int many = 0;
+        for (int i = 0; i < list.told && i < MOST_WORDS; i++) {
+            numbers[i] = numberOf(list.keys[i], p);
+            many++;
+        }
+        return many;
+    }
+
+    private long rowOf(int many, int m, int h) {
         long row = 0;
-        for (int i = 0; i < list.told; i++) {
-            row |= bitsOf(numberOf(list.keys[i], p), m, h);
+        for (int i = 0; i < many; i++) {
+            row |= bitsOf(numbers[i], m, h);
         }
         return row;
     }
@@ -691,13 +700,12 @@ public final class BothLists {
         return in;
     }
 
-    private int differentNumbers(Names list) {
+    private int differentNumbers(int many) {
         int different = 0;
-        for (int i = 0; i < list.told; i++) {
-            int x = numberOf(list.keys[i], p);
+        for (int i = 0; i < many; i++) {
             boolean isNew = true;
             for (int j = 0; j < i && isNew; j++) {
-                isNew = numberOf(list.keys[j], p) != x;
+                isNew = numbers[j] != numbers[i];
             }
             if (isNew) {
                 different++;
@@ -1052,25 +1060,22 @@ public final class BothLists {
                 if (tape.kind == AT_END) {
                     break;
                 }
-                if (!readClause(into)) {
+                boolean good;
+                if (tape.says("same")) {
+                    good = readSame(into);
+                } else if (tape.says("drop")) {
+                    good = readDrop(into);
+                } else if (tape.says("double")) {
+                    good = readDouble(into);
+                } else {
+                    good = tape.says("first") ? readFirst(into) : fail(FAULT_SYNTAX);
+                }
+                if (!good) {
                     return false;
                 }
                 into.clauses++;
             }
             return true;
-        }
-
-        private boolean readClause(Speller into) {
-            if (tape.says("same")) {
-                return readSame(into);
-            }
-            if (tape.says("drop")) {
-                return readDrop(into);
-            }
-            if (tape.says("double")) {
-                return readDouble(into);
-            }
-            return tape.says("first") ? readFirst(into) : fail(FAULT_SYNTAX);
         }
 
         private boolean readSame(Speller into) {
@@ -1289,12 +1294,14 @@ public final class BothLists {
     private static final class Turning {
         /** Every answer for a small prime: a search through all lists asks for them over and over. */
         final int[] answers;
+        boolean hasAnswers;
         int kind;
         int k;
         int p;
 
         Turning() {
             answers = new int[MOST_PRIME_TO_AGREE];
+            hasAnswers = false;
             kind = POWER;
             k = 1;
             p = FIRST_PRIME;
@@ -1317,21 +1324,17 @@ public final class BothLists {
             kind = newKind;
             k = newK;
             p = newP;
-            if (p <= MOST_PRIME_TO_AGREE) {
-                for (int x = 1; x < p; x++) {
-                    answers[x] = work(x);
-                }
+            hasAnswers = false;
+            for (int x = 1; x < p && p <= MOST_PRIME_TO_AGREE; x++) {
+                answers[x] = apply(x);
             }
+            hasAnswers = p <= MOST_PRIME_TO_AGREE;
         }
 
         int apply(int x) {
-            if (p <= MOST_PRIME_TO_AGREE && x >= 0 && x < answers.length) {
+            if (hasAnswers && x >= 0 && x < answers.length) {
                 return answers[x];
             }
-            return work(x);
-        }
-
-        private int work(int x) {
             if (kind == POWER) {
                 return Arithmetic.power(x, k, p);
             }
@@ -1678,6 +1681,7 @@ public final class BothLists {
     /** For a side: how many key numbers of the other one agree with each list of the known. */
     private static final class Agreement {
         final int[] keyNumbers;
+        final int[] numbers;
         final Play trial;
         final Turning guess;
         boolean fresh;
@@ -1685,20 +1689,21 @@ public final class BothLists {
 
         Agreement(Play trial, Turning guess) {
             keyNumbers = new int[1 << MOST_KNOWN];
+            numbers = new int[MOST_KNOWN];
             this.trial = trial;
             this.guess = guess;
         }
 
         void search(Play done, Way way, Names known, int side) {
+            if (fresh) {
+                return;
+            }
             Hand other = trial.hands[1 - side];
             trial.hands[side].loadLike(done.hands[side]);
             other.loadLike(done.hands[1 - side]);
             int kind = other.turning.kind;
             int p = done.p;
-            subsets = 1 << Math.min(known.told, MOST_KNOWN);
-            for (int bits = 0; bits < subsets; bits++) {
-                keyNumbers[bits] = 0;
-            }
+            loadKnown(known, p);
             for (int k = 0; k < p; k++) {
                 if (!Turning.allows(kind, k, p)) {
                     continue;
@@ -1706,7 +1711,7 @@ public final class BothLists {
                 guess.become(kind, k, p);
                 other.turning = guess;
                 for (int bits = 0; bits < subsets; bits++) {
-                    loadChosen(other, known, bits, p);
+                    loadChosen(other, bits);
                     if (agrees(done, way, side)) {
                         keyNumbers[bits]++;
                     }
@@ -1715,11 +1720,22 @@ public final class BothLists {
             fresh = true;
         }
 
-        private static void loadChosen(Hand hand, Names known, int bits, int p) {
-            hand.listSize = 0;
+        private void loadKnown(Names known, int p) {
+            subsets = 1;
             for (int i = 0; i < known.told && i < MOST_KNOWN; i++) {
+                numbers[i] = numberOf(known.keys[i], p);
+                subsets *= 2;
+            }
+            for (int bits = 0; bits < subsets; bits++) {
+                keyNumbers[bits] = 0;
+            }
+        }
+
+        private void loadChosen(Hand hand, int bits) {
+            hand.listSize = 0;
+            for (int i = 0; i < MOST_KNOWN; i++) {
                 if ((bits >>> i & 1) == 1) {
-                    hand.list[hand.listSize] = numberOf(known.keys[i], p);
+                    hand.list[hand.listSize] = numbers[i];
                     hand.dowries[hand.listSize] = 1;
                     hand.listSize++;
                 }
@@ -1816,15 +1832,15 @@ public final class BothLists {
         }
 
         static int power(int x, int k, int m) {
-            int answer = 1;
-            int square = x;
-            for (int bit = 0; bit < 31 && k >>> bit != 0; bit++) {
+            long answer = 1;
+            long square = x;
+            for (int bit = 0; bit < 31 && k >>> bit != 0 && m > 0; bit++) {
                 if ((k >>> bit & 1) == 1) {
-                    answer = times(answer, square, m);
+                    answer = answer * square % m;
                 }
-                square = times(square, square, m);
+                square = square * square % m;
             }
-            return answer;
+            return (int) answer;
         }
 
         /** The number by which k, without a factor that m has, too, is 1 modulo m. */

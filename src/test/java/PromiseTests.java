@@ -214,6 +214,9 @@ public final class PromiseTests {
         is("blanks between", spelling(x, "  same\nc k ;\n double ; first 010 ;"), 3);
         is("no blank is needed", spelling(x, "first3;drop a;"), 2);
         is("all letters", spelling(x, "same a b c d e f g h i j k l m n o p q r s t u v w x y z;"), 1);
+        is("all dropped", spelling(x, "drop a b c d e f g h i j k l m n o p q r s t u v w x y z;"), 1);
+        is("none is left", key(x, "az", -1), 0);
+        spelling(x, "same a b c d e f g h i j k l m n o p q r s t u v w x y z;");
         is("no more letter", spelling(x, "same a b c d e f g h i j k l m n o p q r s t u v w x y z a;"), NONE);
         is("twice", x.fault(0), 3);
         is("there", x.fault(1), 57);
@@ -239,6 +242,7 @@ public final class PromiseTests {
         badSpelling("same a 1;", 1, 7);
         badSpelling("drop;", 1, 4);
         badSpelling("drop a a;", 3, 7);
+        badSpelling("drop z; same y z;", 3, 15);
         badSpelling("same a b; drop b;", 3, 15);
         badSpelling("same a b; same c a;", 3, 17);
         badSpelling("double a;", 1, 7);
@@ -738,6 +742,14 @@ public final class PromiseTests {
         x.run();
         is("two names of one number", x.number(0, 0), x.number(0, 1));
         is("are two places", x.out(0, 0), 3);
+        // By 101 a is 19 and ax is 83: the same rest by 64, and not the same number.
+        BothLists y = ready(101, "a 1; ax 1;", "ax 1; a 1;", "one makes a; one sends a; two makes b; two meets b a;");
+        list(y, 0, "a 1;");
+        y.run();
+        is("ax", y.number(1, 0), 83);
+        is("a alone is met", y.out(1, 0), 1);
+        is("not ax", y.out(1, 10), 0);
+        is("but a", y.out(1, 11), 1);
     }
 
     private static void saw() {
@@ -956,6 +968,9 @@ public final class PromiseTests {
         way(x, "one makes a; one counts a; one sends a;");
         x.run();
         is("a count is none", x.read(1), 0);
+        way(x, "one makes a; one makes b; one counts b; one sends b; one sends a; one sends b;");
+        x.run();
+        is("a bag behind a count", x.read(1), 1 + 2);
     }
 
     // ---- promises 24 to 27
@@ -1023,11 +1038,27 @@ public final class PromiseTests {
         is("side 2", x.cheapest(2, 0), RANGE);
         is("side -1", x.cheapest(-1, 0), RANGE);
         is("highest most", x.cheapest(0, Integer.MAX_VALUE), 11);
+        cheapestOf(31, "v 1; u 1; h 1; m 1; z 1;", 0, 306);
+        cheapestOf(101, "h 1; u 1; v 1;", 1, 621);
         x.prime(3001);
         is("P above 3000", x.cheapest(0, 0), STATE);
         is("RANGE ahead of STATE", x.cheapest(0, -1), RANGE);
         x.prime(2999);
         is("none does", x.cheapest(0, 0), NONE);
+    }
+
+    /** None ahead of it will do, and it does. */
+    private static void cheapestOf(int p, String text, int most, int want) {
+        BothLists x = new BothLists();
+        x.prime(p);
+        list(x, 1, text);
+        for (int m = 1; m <= 62; m++) {
+            for (int h = 1; h <= 6 && 10 * m + h <= want; h++) {
+                is("strangers " + m + " " + h, x.strangers(1, m, h) <= most ? 10 * m + h : want, want);
+            }
+        }
+        is("strangers of " + want, x.strangers(1, want / 10, want % 10) <= most ? 1 : 0, 1);
+        is("cheapest is " + want, x.cheapest(1, most), want);
     }
 
     private static void near() {
@@ -1053,6 +1084,7 @@ public final class PromiseTests {
         is("side 2", comes(x, 2, 0, "bob 1"), RANGE);
         is("side -1", comes(x, -1, 0, "bob 1"), RANGE);
         is("day -1", comes(x, 0, -1, "bob 1"), RANGE);
+        is("day -1 of a new object", comes(new BothLists(), 0, -1, "bob 1"), RANGE);
         is("day 401", comes(x, 0, 401, "bob 1"), RANGE);
         is("RANGE ahead of NONE", comes(x, 0, 401, ""), RANGE);
         is("no text", comes(x, 0, 0, ""), NONE);
@@ -1118,6 +1150,10 @@ public final class PromiseTests {
         is("day 8", x.size(0, 8, 1), 14);
         is("day 9", x.size(0, 9, 1), 5);
         is("as they were told", x.count(0), 2);
+        goes(x, 0, 9, "bob");
+        is("nobody", x.size(0, 9, 0), 0);
+        list(x, 1, "");
+        is("all are there again", x.size(0, 9, 1), 9);
     }
 
     private static void both() {

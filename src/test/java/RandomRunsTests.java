@@ -79,11 +79,18 @@ public final class RandomRunsTests {
     }
 
     private int odd(int least, int most) {
+        if (random.nextInt(8) == 0) {
+            return random.nextBoolean() ? Integer.MIN_VALUE + random.nextInt(3) : Integer.MAX_VALUE - random.nextInt(3);
+        }
         return least - 2 + random.nextInt(most - least + 5);
     }
 
     private int mostly(int least, int most) {
         return random.nextInt(12) == 0 ? odd(least, most) : least + random.nextInt(most - least + 1);
+    }
+
+    private static int within(int n) {
+        return Math.max(1, Math.min(n, 10001));
     }
 
     private <T> T one(List<T> of) {
@@ -345,7 +352,7 @@ public final class RandomRunsTests {
         check("thrown(" + side + ", " + m + ", " + h + ")", real.thrown(side, m, h), plain.thrown(side, m, h));
         check("strangers(" + side + ", " + m + ", " + h + ") by " + p, real.strangers(side, m, h), plain.strangers(side, m, h));
         if (p < 200 || random.nextInt(30) == 0) {
-            int most = random.nextInt(4) == 0 ? odd(0, p) : random.nextInt(4);
+            int most = random.nextInt(4) == 0 ? odd(0, Math.min(p, 3000)) : random.nextInt(4);
             check("cheapest(" + side + ", " + most + ") by " + p, real.cheapest(side, most), plain.cheapest(side, most));
         }
         check("near()", real.near(), plain.near());
@@ -356,7 +363,8 @@ public final class RandomRunsTests {
         int day = random.nextInt(20);
         for (int i = 0; i < steps; i++) {
             int side = mostly(0, 1);
-            day = random.nextInt(20) == 0 ? one(List.of(-1, 0, 5, 399, 400, 401)) : day + random.nextInt(3);
+            int next = random.nextInt(20) == 0 ? one(List.of(-1, 0, 5, 399, 400, 401)) : day + random.nextInt(3);
+            day = random.nextInt(200) == 0 ? odd(0, 400) : Math.max(-2, Math.min(402, next));
             boolean comes = random.nextInt(3) > 0;
             put(spoil(comes ? word() + " " + (random.nextInt(20) == 0 ? 9998 + random.nextInt(4) : random.nextInt(90)) : word()));
             if (comes) {
@@ -364,7 +372,7 @@ public final class RandomRunsTests {
             } else {
                 check("goes(" + side + ", " + day + ")", real.goes(side, day), plain.goes(side, day));
             }
-            int asked = Math.max(-1, day - random.nextInt(4));
+            int asked = random.nextInt(50) == 0 ? odd(0, 400) : Math.max(-1, day - random.nextInt(4));
             check("both(" + asked + ")", real.both(asked), plain.both(asked));
             int what = mostly(0, 1);
             check("size(" + side + ", " + asked + ", " + what + ")", real.size(side, asked, what), plain.size(side, asked, what));
@@ -374,13 +382,13 @@ public final class RandomRunsTests {
     private void judge() {
         for (int i = 0; i < 6; i++) {
             int n = mostly(1, 40);
-            int f = mostly(0, Math.max(0, n));
-            int c = mostly(0, Math.max(0, n));
+            int f = mostly(0, within(n));
+            int c = mostly(0, within(n));
             int what = mostly(0, 1);
             String told = "(" + n + ", " + f + ", " + c + ", " + what + ")";
             check("caught" + told, real.caught(n, f, c, what), plain.caught(n, f, c, what));
             int b = random.nextInt(4) == 0 ? mostly(1, 10000) : mostly(1, 20);
-            int a = mostly(0, Math.max(1, b));
+            int a = mostly(0, within(b));
             told = "(" + n + ", " + f + ", " + a + ", " + b + ")";
             check("opened" + told, real.opened(n, f, a, b), plain.opened(n, f, a, b));
         }
