@@ -59,6 +59,11 @@ public final class FaceTests {
                         Modifier.isPublic(m.getModifiers()) && !Modifier.isStatic(m.getModifiers()));
             }
         }
+        Set<String> names = new HashSet<>();
+        for (Method m : c.getDeclaredMethods()) {
+            boolean isNew = names.add(m.getName());
+            DUE.holds(m + " shares its name with no other", isNew);
+        }
         DUE.holds("the methods are " + seen, seen.equals(new TreeSet<>(Arrays.asList(FACE))));
         Set<String> constants = new TreeSet<>();
         for (Field f : c.getDeclaredFields()) {

@@ -750,6 +750,12 @@ public final class PromiseTests {
         is("a alone is met", y.out(1, 0), 1);
         is("not ax", y.out(1, 10), 0);
         is("but a", y.out(1, 11), 1);
+        list(y, 0, "ax 1; a 1;");
+        y.run();
+        list(y, 0, "ax 1;");
+        list(y, 1, "a 1;");
+        y.run();
+        is("what a bag had in an earlier run is gone", y.out(1, 0), 0);
     }
 
     private static void saw() {
@@ -971,6 +977,11 @@ public final class PromiseTests {
         way(x, "one makes a; one makes b; one counts b; one sends b; one sends a; one sends b;");
         x.run();
         is("a bag behind a count", x.read(1), 1 + 2);
+        // By 11 the first draw is 5, and so is g.
+        BothLists y = ready(11, "", "", "one makes a; one sends a; one pads a 1; one sends a;");
+        known(y, "g;");
+        y.run();
+        is("a bag behind an empty one", y.read(1), 1);
     }
 
     // ---- promises 24 to 27
