@@ -1,15 +1,7 @@
 /** For each promise of the document: ordinary inputs, the edges it names, and wrong inputs; answers worked out by hand. */
-public final class PromiseTests {
-    private static final int NONE = -1;
-    private static final int RANGE = -2;
-    private static final int FULL = -3;
-    private static final int STATE = -4;
-    private static final String MEETING = "one makes a; one sends a; two makes b; two meets b a;";
-
-    private static Due due;
-
+public final class PromiseTests extends Common {
     public static void main(String[] args) {
-        due = new Due("PromiseTests");
+        begin("PromiseTests");
         newObject();
         feed();
         end();
@@ -49,92 +41,7 @@ public final class PromiseTests {
         caught();
         opened();
         count();
-        due.finish();
-    }
-
-    private static void is(String what, long got, long want) {
-        due.is(what, got, want);
-    }
-
-    // ---- helpers that put a text and read it
-
-    private static int spelling(BothLists x, String text) {
-        Put.text(x, text);
-        return x.spelling();
-    }
-
-    private static int list(BothLists x, int side, String text) {
-        Put.text(x, text);
-        return x.list(side);
-    }
-
-    private static int known(BothLists x, String text) {
-        Put.text(x, text);
-        return x.known();
-    }
-
-    private static int way(BothLists x, String text) {
-        Put.text(x, text);
-        return x.way();
-    }
-
-    private static int key(BothLists x, String text, int i) {
-        Put.text(x, text);
-        return x.key(i);
-    }
-
-    private static int comes(BothLists x, int side, int day, String text) {
-        Put.text(x, text);
-        return x.comes(side, day);
-    }
-
-    private static int goes(BothLists x, int side, int day, String text) {
-        Put.text(x, text);
-        return x.goes(side, day);
-    }
-
-    private static void faultIs(String what, BothLists x, int answer, int kind, int place) {
-        is(what + " answers", answer, kind == 0 ? answer : NONE);
-        is(what + " kind", x.fault(0), kind);
-        is(what + " place", x.fault(1), place);
-    }
-
-    private static void badSpelling(String text, int kind, int place) {
-        BothLists x = new BothLists();
-        faultIs("spelling " + text, x, spelling(x, text), kind, place);
-    }
-
-    private static void badList(String text, int kind, int place) {
-        BothLists x = new BothLists();
-        faultIs("list " + text, x, list(x, 1, text), kind, place);
-    }
-
-    private static void badKnown(String text, int kind, int place) {
-        BothLists x = new BothLists();
-        faultIs("known " + text, x, known(x, text), kind, place);
-    }
-
-    private static void badWay(String text, int kind, int place) {
-        BothLists x = new BothLists();
-        faultIs("way " + text, x, way(x, text), kind, place);
-    }
-
-    /** Many different words, two letters each. */
-    private static String words(int many, String behind) {
-        StringBuilder s = new StringBuilder();
-        for (int i = 0; i < many; i++) {
-            s.append((char) ('a' + i % 26)).append((char) ('a' + i / 26)).append(behind);
-        }
-        return s.toString();
-    }
-
-    private static BothLists ready(int p, String one, String two, String way) {
-        BothLists x = new BothLists();
-        x.prime(p);
-        is("ready list 0", list(x, 0, one) >= 0 ? 1 : 0, 1);
-        is("ready list 1", list(x, 1, two) >= 0 ? 1 : 0, 1);
-        is("ready way", way(x, way) >= 0 ? 1 : 0, 1);
-        return x;
+        finish();
     }
 
     // ---- promises 1 to 9
