@@ -941,7 +941,7 @@ public final class TextEdgesTests extends Common {
         }
         for (int i = 0; i < 3; i++) {
             is("one word", list(x, 0, "d 5;"), 1);
-            is("one word of two", list(x, 1, "c 6;"), 1);
+            is("one word of two", list(x, 1, "b 6;"), 1);
             is("count", x.count(0), 1);
             is("no second", x.number(0, 1), RANGE);
             is("size", x.size(0, 0, 0), 1);

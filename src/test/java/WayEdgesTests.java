@@ -44,6 +44,8 @@ public final class WayEdgesTests extends Common {
         agreeEdges();
         agreeLeavesTheRun();
         agreeEven();
+        agreeOfShorterTexts();
+        agreeOfLongestTexts();
         surely();
         surelyEdges();
         readTimes();
@@ -806,6 +808,48 @@ public final class WayEdgesTests extends Common {
         is("nobody is the least", x.agree(0, 3), 0);
         known(x, "g; c; d;");
         is("nor the other way round", x.agree(0, 2), 0);
+    }
+
+    private static void agreeOfShorterTexts() {
+        says("21: AGREE for a SIDE");
+        BothLists x = ready(11, "a 1;", "b 1;", "");
+        String longer = "two makes a; two sends a; two makes b; two sends b;";
+        for (int i = 0; i < 3; i++) {
+            newWay(x, longer);
+            known(x, "a; b; j;");
+            is("both bags of b", x.agree(0, 0), 1);
+        }
+        for (int i = 0; i < 3; i++) {
+            newWay(x, "two makes a;");
+            known(x, "a; b; c;");
+            is("nothing was seen", x.agree(0, 0), 8);
+            newWay(x, "two makes a; two sends a;");
+            is("b was seen", x.agree(0, 3), 2);
+            known(x, "b;");
+            is("b was seen of one known", x.agree(0, 3), 1);
+            is("of one known even", x.agree(0, 2), 1);
+        }
+        // Nobody by four powers and g by one are not even; then the second known is gone, and nobody alone agrees.
+        list(x, 1, "");
+        newWay(x, "two makes a; two turns a; two pads a 1; two sends a;");
+        known(x, "c; g;");
+        is("not even", x.agree(0, 2), 0);
+        known(x, "c;");
+        is("even then", x.agree(0, 2), 1);
+    }
+
+    private static void agreeOfLongestTexts() {
+        says("I: at most 8 WORDS that are talked of; at most 30 LINES; pads 1 .. 60");
+        BothLists x = ready(5, "", "", "two makes a; two pads a 60;" + "two turns a;".repeat(27) + "two sends a;");
+        known(x, "a; b; c; d; e; f; g; h;");
+        x.turning(1, PLUS, 3);
+        x.run();
+        is("the longest row", x.saw(0, -1), 61);
+        is("nobody agrees", x.agree(0, 3), 0);
+        is("for the other one all lists", x.agree(1, 0), 256);
+        is("by all key numbers", x.agree(1, 1), 256 * 2);
+        is("even", x.agree(1, 2), 1);
+        is("the eighth", x.surely(1, 7), 2);
     }
 
     private static void surely() {
