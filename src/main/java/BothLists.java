@@ -112,8 +112,10 @@ public final class BothLists {
         turnings = new Turning[] {new Turning(), new Turning()};
         seeds = new int[] {1, 1};
         numbers = new int[MOST_WORDS];
-        done = new Play();
-        Play trial = new Play();
+        int[] seenByOne = new int[MOST_SEEN];
+        int[] seenByTwo = new int[MOST_SEEN];
+        done = new Play(new Hand(turnings[0], seenByOne, false), new Hand(turnings[1], seenByTwo, false));
+        Play trial = new Play(new Hand(turnings[0], seenByOne, true), new Hand(turnings[1], seenByTwo, true));
         Turning guess = new Turning();
         agreements = new Agreement[] {new Agreement(trial, guess), new Agreement(trial, guess)};
         ran = false;
@@ -299,7 +301,7 @@ public final class BothLists {
             return STATE;
         }
         for (int side = 0; side < SIDES; side++) {
-            done.hands[side].load(names[side], turnings[side], seeds[side], p);
+            done.hands[side].load(names[side], seeds[side], p);
         }
         done.start(p);
         for (int line = 0; line < way.lines; line++) {
@@ -989,6 +991,19 @@ public final class BothLists {
             return does != SENDS && isCounted[place] ? FAULT_COUNTED : 0;
         }
 
+        boolean onlyTells(int line) {
+            return act[line] == MEETS || act[line] == SUMS;
+        }
+
+        /** How many lines there are up to the last one by which a side sends; 0: she sends nothing. */
+        int linesToLastSentBy(int side) {
+            int to = lines;
+            while (to > 0 && (who[to - 1] != side || act[to - 1] != SENDS)) {
+                to--;
+            }
+            return to;
+        }
+
         void add(int side, int does, int letter, int further) {
             if (lines >= MOST_LINES) {
                 return;
@@ -1437,15 +1452,6 @@ public final class BothLists {
             }
             return false;
         }
-
-        /** A bit for the rest by 64 of each number: most numbers that are not in are told by it. */
-        long marks() {
-            long marks = 0;
-            for (int i = 0; i < size; i++) {
-                marks |= 1L << (numbers[i] & 63);
-            }
-            return marks;
-        }
     }
 
     /** What one side has in a run: her list and secrets, her bags, what she saw and what came out. */
@@ -1454,6 +1460,9 @@ public final class BothLists {
         final int[] dowries;
         final Bag[] bags;
         final int[] seen;
+        /** On trial nothing is written into the row: what is seen is held against it. */
+        final boolean isOnTrial;
+        boolean sawOther;
         int listSize;
         Turning turning;
         int seed;
@@ -1463,33 +1472,33 @@ public final class BothLists {
         int outValue;
         long outPlaces;
 
-        Hand() {
+        Hand(Turning turning, int[] seen, boolean isOnTrial) {
             list = new int[MOST_WORDS];
             dowries = new int[MOST_WORDS];
             bags = new Bag[BAG_LETTERS];
             for (int i = 0; i < BAG_LETTERS; i++) {
                 bags[i] = new Bag();
             }
-            seen = new int[MOST_SEEN];
-            turning = new Turning();
+            this.turning = turning;
+            this.seen = seen;
+            this.isOnTrial = isOnTrial;
         }
 
-        void load(Names names, Turning ownTurning, int ownSeed, int p) {
+        void load(Names names, int ownSeed, int p) {
             listSize = 0;
             for (int i = 0; i < names.told && i < MOST_WORDS; i++) {
                 list[i] = numberOf(names.keys[i], p);
                 dowries[i] = names.dowries[i];
                 listSize++;
             }
-            turning = ownTurning;
             seed = ownSeed;
         }
 
+        /** Dowries stay behind: on trial no OUT is told. */
         void loadLike(Hand other) {
             listSize = other.listSize;
             for (int i = 0; i < listSize; i++) {
                 list[i] = other.list[i];
-                dowries[i] = other.dowries[i];
             }
             turning = other.turning;
             seed = other.seed;
@@ -1498,6 +1507,7 @@ public final class BothLists {
         void start() {
             draw = seed;
             seenSize = 0;
+            sawOther = false;
             outKind = NONE;
             outValue = 0;
             outPlaces = 0;
@@ -1509,10 +1519,15 @@ public final class BothLists {
         }
 
         void see(int number) {
-            if (seenSize < seen.length) {
-                seen[seenSize] = number;
-                seenSize++;
+            if (seenSize >= seen.length) {
+                return;
             }
+            if (!isOnTrial) {
+                seen[seenSize] = number;
+            } else if (seen[seenSize] != number) {
+                sawOther = true;
+            }
+            seenSize++;
         }
 
         void seeBag(Bag bag) {
@@ -1545,23 +1560,6 @@ public final class BothLists {
             }
             return false;
         }
-
-        boolean seesLike(Hand other, int from) {
-            if (seenSize > other.seenSize) {
-                return false;
-            }
-            for (int i = from; i < seenSize; i++) {
-                if (seen[i] != other.seen[i]) {
-                    return false;
-                }
-            }
-            return true;
-        }
-
-        boolean endsLike(Hand other) {
-            return seenSize == other.seenSize && outKind == other.outKind
-                    && outValue == other.outValue && outPlaces == other.outPlaces;
-        }
     }
 
     /** A run of a way, line by line. */
@@ -1571,8 +1569,8 @@ public final class BothLists {
         int turnsDone;
         int bytesSent;
 
-        Play() {
-            hands = new Hand[] {new Hand(), new Hand()};
+        Play(Hand one, Hand two) {
+            hands = new Hand[] {one, two};
         }
 
         void start(int prime) {
@@ -1648,15 +1646,12 @@ public final class BothLists {
 
         private void meet(int side, Bag first, Bag second) {
             Hand hand = hands[side];
-            long marks = second.marks();
-            boolean marksTellAll = p <= MOST_PRIME_TO_AGREE;
             boolean tellsPlaces = first.maker == side && !first.isMixed;
             hand.outKind = tellsPlaces ? OUT_PLACES : OUT_ALONE;
             hand.outValue = 0;
             hand.outPlaces = 0;
             for (int i = 0; i < first.size; i++) {
-                int x = first.numbers[i];
-                if ((marks >>> (x & 63) & 1) == 1 && (marksTellAll || second.has(x))) {
+                if (second.has(first.numbers[i])) {
                     hand.outValue++;
                     if (tellsPlaces && i < hand.listSize) {
                         hand.outPlaces |= 1L << i;
@@ -1686,6 +1681,7 @@ public final class BothLists {
         final Turning guess;
         boolean fresh;
         int subsets;
+        int linesThatShow;
 
         Agreement(Play trial, Turning guess) {
             keyNumbers = new int[1 << MOST_KNOWN];
@@ -1703,6 +1699,7 @@ public final class BothLists {
             other.loadLike(done.hands[1 - side]);
             int kind = other.turning.kind;
             int p = done.p;
+            linesThatShow = way.linesToLastSentBy(1 - side);
             loadKnown(known, p);
             for (int k = 0; k < p; k++) {
                 if (!Turning.allows(kind, k, p)) {
@@ -1736,24 +1733,25 @@ public final class BothLists {
             for (int i = 0; i < MOST_KNOWN; i++) {
                 if ((bits >>> i & 1) == 1) {
                     hand.list[hand.listSize] = numbers[i];
-                    hand.dowries[hand.listSize] = 1;
                     hand.listSize++;
                 }
             }
         }
 
+        /**
+         * Whether she sees the same. Her OUT is the same then, too: it is made of her own list and
+         * secrets and of what she saw. So lines that only tell an OUT, and those behind the last
+         * that sends her something, are left aside.
+         */
         private boolean agrees(Play done, Way way, int side) {
             Hand mine = trial.hands[side];
-            Hand seenMine = done.hands[side];
             trial.start(done.p);
-            for (int line = 0; line < way.lines; line++) {
-                int before = mine.seenSize;
-                trial.doLine(way, line);
-                if (!mine.seesLike(seenMine, before)) {
-                    return false;
+            for (int line = 0; line < linesThatShow && !mine.sawOther; line++) {
+                if (!way.onlyTells(line)) {
+                    trial.doLine(way, line);
                 }
             }
-            return mine.endsLike(seenMine);
+            return !mine.sawOther && mine.seenSize == done.hands[side].seenSize;
         }
 
         int agreeingLists() {

@@ -1,10 +1,20 @@
 import java.lang.management.ManagementFactory;
+import java.lang.reflect.Array;
+import java.lang.reflect.Field;
+import java.lang.reflect.Modifier;
 import java.nio.charset.StandardCharsets;
+import java.util.Collections;
+import java.util.IdentityHashMap;
+import java.util.Set;
 
 /** All calls of a run live in one room: an object makes its rows once, and no call makes anything more. */
 public final class RoomTests {
     private static final long MOST_BYTES_OF_AN_OBJECT = 100_000;
     private static final long MOST_BYTES_OF_CALLS = 2_000;
+    /** The room of one run, and how many objects of the class should find place in it. */
+    private static final long ROOM_FOR_OBJECTS = 600_000;
+    private static final long ROOM_FOR_PARTS = 7_300_000;
+    private static final int NEW_ONES = 512;
 
     private static final com.sun.management.ThreadMXBean THREADS =
             (com.sun.management.ThreadMXBean) ManagementFactory.getThreadMXBean();
@@ -22,8 +32,15 @@ public final class RoomTests {
         return Put.fives((text + " ".repeat(19)).substring(0, (text.length() + 19) / 20 * 20).getBytes(StandardCharsets.ISO_8859_1));
     }
 
-    public static void main(String[] args) {
+    private final Set<Object> found = Collections.newSetFromMap(new IdentityHashMap<>());
+    private long parts = 0;
+
+    public static void main(String[] args) throws Exception {
         Due due = new Due("RoomTests");
+        RoomTests room = new RoomTests();
+        room.look(new BothLists());
+        due.holds("an object is made of " + room.found.size() + " objects and arrays", NEW_ONES * room.found.size() <= ROOM_FOR_OBJECTS);
+        due.holds("they have " + room.parts + " fields and elements", NEW_ONES * room.parts <= ROOM_FOR_PARTS);
         for (int i = 0; i < 20; i++) {
             use(new BothLists());
         }
@@ -36,6 +53,33 @@ public final class RoomTests {
         long more = used() - before;
         due.holds("its calls take " + more + " bytes (" + sum + ")", more <= MOST_BYTES_OF_CALLS);
         due.finish();
+    }
+
+    private void look(Object o) throws Exception {
+        if (o == null || !found.add(o)) {
+            return;
+        }
+        if (o.getClass().isArray()) {
+            lookIntoArray(o);
+            return;
+        }
+        for (Field field : o.getClass().getDeclaredFields()) {
+            if (!Modifier.isStatic(field.getModifiers())) {
+                parts++;
+                field.setAccessible(true);
+                if (!field.getType().isPrimitive()) {
+                    look(field.get(o));
+                }
+            }
+        }
+    }
+
+    private void lookIntoArray(Object array) throws Exception {
+        int length = Array.getLength(array);
+        parts += length;
+        for (int i = 0; i < length && !array.getClass().getComponentType().isPrimitive(); i++) {
+            look(Array.get(array, i));
+        }
     }
 
     private static long used() {
